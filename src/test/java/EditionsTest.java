@@ -1,0 +1,264 @@
+/** Promises 20 to 22: the changes of editions, and undo. */
+public final class EditionsTest {
+    // What the steps of promise22RestoresAll answer.
+    private static final int[] ANSWERS = {3, 3, 50, 0, 1, 1, 1, 2, 0, 2, 0, 2, 2, 1, 1, 1, 0, 0, 1, 0, 2, 1};
+
+    public static void main(String[] args) {
+        promise20Changes();
+        promise21Change();
+        promise21OfSeveralTheFirst();
+        promise21LatestResolution();
+        promise22Undo();
+        promise22FourStates();
+        promise22ErrorsAndAnswersLeaveNoState();
+        promise22TextStays();
+        promise22RestoresAll();
+        Check.end("EditionsTest");
+    }
+
+    private static void promise20Changes() {
+        CommitteeBallots x = twoEditions();
+        Check.due("edition 1", 0, x.changes(1));
+        Check.due("edition 2", 2, x.changes(2));
+        Check.due("edition 3", 1, x.changes(3));
+        Check.due("edition 0", Check.INVALID, x.changes(0));
+        Check.due("edition 4", Check.INVALID, x.changes(4));
+        for (int far : Check.far()) {
+            Check.due("edition far out of range", Check.INVALID, x.changes(far));
+        }
+        x.appeal(0, 0, 7);
+        Check.due("gone back", Check.INVALID, x.changes(3));
+        Check.due("the one before", 2, x.changes(2));
+    }
+
+    private static void promise21Change() {
+        CommitteeBallots x = twoEditions();
+        tells(x, 2, 0, 10, 1, 2);
+        tells(x, 2, 1, 30, 1, 0);
+        tells(x, 3, 0, 30, 3, 0);
+        for (int what = 0; what < 3; what++) {
+            Check.due("edition 1 has none", Check.NOT_FOUND, x.change(1, 0, what));
+            Check.due("not so many in edition 2", Check.NOT_FOUND, x.change(2, 2, what));
+            Check.due("not so many in edition 3", Check.NOT_FOUND, x.change(3, 1, what));
+            Check.due("edition 0", Check.INVALID, x.change(0, 0, what));
+            Check.due("edition 4", Check.INVALID, x.change(4, 0, what));
+            Check.due("index -1", Check.INVALID, x.change(2, -1, what));
+            Check.due("the greatest index", Check.NOT_FOUND, x.change(2, Integer.MAX_VALUE, what));
+            Check.due("the least index", Check.INVALID, x.change(2, Integer.MIN_VALUE, what));
+        }
+        Check.due("property -1", Check.INVALID, x.change(2, 0, -1));
+        Check.due("property 3", Check.INVALID, x.change(2, 0, 3));
+        Check.due("range before what is found", Check.INVALID, x.change(2, 9, 3));
+        for (int far : Check.far()) {
+            Check.due("edition far out of range", Check.INVALID, x.change(far, 0, 0));
+            Check.due("property far out of range", Check.INVALID, x.change(2, 0, far));
+        }
+    }
+
+    /** Ballot 1 changes clauses 10 and 30, ballot 2 is not carried, ballot 3 changes 30 back. */
+    private static CommitteeBallots twoEditions() {
+        CommitteeBallots x = Check.inBallot();
+        x.comment(0, 30, Check.TECHNICAL, 301);
+        x.comment(0, 20, Check.TECHNICAL, 201);
+        x.comment(0, 10, Check.TECHNICAL, 101);
+        Check.carry(x);
+        x.resolve(Check.ACCEPT, 0);
+        x.resolve(Check.REJECT, 0);
+        x.resolve(Check.ACCEPT, 0);
+        x.open();
+        x.comment(0, 20, Check.TECHNICAL, 299);
+        Check.finish(x);
+        x.open();
+        x.comment(0, 30, Check.EDITORIAL, 300);
+        Check.carry(x);
+        x.resolve(Check.ACCEPT, 0);
+        return x;
+    }
+
+    private static void tells(CommitteeBallots x, int edition, int index, int... due) {
+        for (int what = 0; what < due.length; what++) {
+            Check.due("change " + index + " of edition " + edition + " tells " + what, due[what],
+                    x.change(edition, index, what));
+        }
+    }
+
+    private static void promise21OfSeveralTheFirst() {
+        CommitteeBallots x = Check.inBallot();
+        x.comment(0, 10, Check.EDITORIAL, 101);
+        x.comment(0, 10, Check.TECHNICAL, 102);
+        x.comment(0, 10, Check.TECHNICAL, 101);
+        x.comment(0, 10, Check.TECHNICAL, 103);
+        Check.carry(x);
+        x.resolve(Check.MODIFY, 100);
+        x.resolve(Check.ACCEPT, 0);
+        x.resolve(Check.MODIFY, 101);
+        x.resolve(Check.ACCEPT, 0);
+        Check.due("resolved first with this value", 2, x.change(2, 0, 2));
+        x.appeal(2, 0, 7);
+        x.resolve(Check.REJECT, 0);
+        Check.due("the next one that stands", 3, x.change(2, 0, 2));
+        x.appeal(3, 0, 7);
+        x.resolve(Check.REJECT, 0);
+        Check.due("the last one that stands", 0, x.change(2, 0, 2));
+    }
+
+    private static void promise21LatestResolution() {
+        CommitteeBallots x = Check.inBallot();
+        x.comment(0, 10, Check.TECHNICAL, 101);
+        x.comment(0, 10, Check.TECHNICAL, 101);
+        Check.carry(x);
+        x.resolve(Check.ACCEPT, 0);
+        x.resolve(Check.ACCEPT, 0);
+        Check.due("the first", 0, x.change(2, 0, 2));
+        x.appeal(0, 0, 7);
+        x.resolve(Check.ACCEPT, 0);
+        Check.due("its latest resolution came later", 1, x.change(2, 0, 2));
+        x.appeal(1, 0, 7);
+        x.resolve(Check.ACCEPT, 0);
+        Check.due("then that of the other", 0, x.change(2, 0, 2));
+    }
+
+    private static void promise22Undo() {
+        CommitteeBallots x = new CommitteeBallots();
+        Check.due("empty", Check.IMPOSSIBLE, x.undo());
+        x.addMember(5);
+        x.addMember(6);
+        Check.due("one is left", 1, x.undo());
+        Check.due("one member", 1, x.count(0));
+        Check.due("none is left", 0, x.undo());
+        Check.due("no member", 0, x.count(0));
+        Check.due("empty again", Check.IMPOSSIBLE, x.undo());
+        x.addMember(7);
+        Check.due("the new one", 7, x.member(0, 0));
+        Check.due("one state", 1, x.count(9));
+    }
+
+    private static void promise22FourStates() {
+        CommitteeBallots x = new CommitteeBallots();
+        for (int days = 1; days <= 7; days++) {
+            x.pass(days);
+            Check.due("states", Math.min(days, 4), x.count(9));
+        }
+        int[] today = {21, 15, 10, 6};
+        for (int left = 3; left >= 0; left--) {
+            Check.due("left", left, x.undo());
+            Check.due("today", today[3 - left], x.count(3));
+        }
+        Check.due("the older ones are dropped", Check.IMPOSSIBLE, x.undo());
+        Check.due("today stays", 6, x.count(3));
+        for (int days = 1; days <= 5; days++) {
+            x.pass(days);
+        }
+        Check.due("again four", 3, x.undo());
+        x.pass(100);
+        Check.due("a state in place of the undone one", 4, x.count(9));
+        Check.due("undone", 3, x.undo());
+        Check.due("today before it", 16, x.count(3));
+    }
+
+    private static void promise22ErrorsAndAnswersLeaveNoState() {
+        CommitteeBallots x = Check.inBallot();
+        x.undo();
+        x.undo();
+        int states = x.count(9);
+        x.addMember(0);
+        x.addClause(10, 1);
+        x.set(0, 0);
+        x.vote(0, 0);
+        x.comment(0, 10, 1, 1);
+        x.enter(0);
+        x.pass(0);
+        x.resolve(0, 0);
+        x.appeal(0, 0, 1);
+        Check.due("errors", states, x.count(9));
+        for (int what = 0; what < 7; what++) {
+            x.member(0, what);
+            x.told(0, what);
+            x.tally(what);
+            x.count(what);
+        }
+        x.lacking();
+        x.next();
+        x.value(10);
+        x.valueIn(10, 1);
+        x.clause(0);
+        x.changes(1);
+        x.change(1, 0, 0);
+        x.fault(0);
+        x.type('1');
+        x.clearText();
+        Check.due("answers and texts", states, x.count(9));
+        x.open();
+        Check.due("opening", states + 1, x.count(9));
+        x.vote(0, 0);
+        Check.due("a vote", states + 2, x.count(9));
+        x.undo();
+        Check.write(x, "10t=1;");
+        x.enter(0);
+        Check.due("entering", states + 2, x.count(9));
+        x.undo();
+        Check.due("entering is undone as one", 0, x.count(6));
+    }
+
+    private static void promise22TextStays() {
+        CommitteeBallots x = Check.ordinary();
+        Check.write(x, "10t=5;");
+        x.pass(1);
+        x.type('2');
+        Check.due("states", 3, x.undo());
+        Check.due("the text is not undone", 7, x.count(10));
+        x.clearText();
+        x.undo();
+        Check.due("nor restored", 0, x.count(10));
+    }
+
+    /** Takes back each step of a run that has every kind of change. */
+    private static void promise22RestoresAll() {
+        for (int step = 0; step < 22; step++) {
+            CommitteeBallots x = Check.committee(3, 2, 1);
+            x.addClause(20, 200);
+            x.addClause(10, 100);
+            x.set(4, 1);
+            for (int ahead = 0; ahead < step; ahead++) {
+                change(x, ahead);
+            }
+            String before = Facts.of(x);
+            change(x, step);
+            Check.due("states at step " + step, 4, x.count(9));
+            Check.holds("changed by step " + step, !before.equals(Facts.of(x)) || step == 17);
+            x.undo();
+            Check.holds("undone at step " + step, before.equals(Facts.of(x)));
+        }
+    }
+
+    private static void change(CommitteeBallots x, int step) {
+        Check.due("answer of step " + step, ANSWERS[step], answer(x, step));
+    }
+
+    private static int answer(CommitteeBallots x, int step) {
+        switch (step) {
+            case 0: return x.addMember(4);
+            case 1: return x.addClause(15, 150);
+            case 2: return x.set(0, 40);
+            case 3: return x.pass(7);
+            case 4: return x.open();
+            case 5: return x.vote(0, Check.APPROVE);
+            case 6: return x.vote(0, Check.ABSTAIN);
+            case 7: return x.vote(1, Check.APPROVE);
+            case 8: return x.comment(0, 10, Check.TECHNICAL, 101);
+            case 9: Check.write(x, "15t=151;20e=0201;"); return x.enter(1);
+            case 10: return x.pass(29);
+            case 11: return x.pass(3);
+            case 12: return x.resolve(Check.ACCEPT, 0);
+            case 13: return x.resolve(Check.MODIFY, 159);
+            case 14: return x.appeal(0, 2, 7);
+            case 15: return x.resolve(Check.MODIFY, 109);
+            case 16: return x.resolve(Check.REJECT, 0);
+            case 17: return x.appeal(2, 2, 4);
+            case 18: return x.appeal(1, 0, 3);
+            case 19: return x.resolve(Check.ACCEPT, 0);
+            case 20: return x.open();
+            default: return x.pass(30);
+        }
+    }
+}
