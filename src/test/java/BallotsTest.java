@@ -10,6 +10,7 @@ public final class BallotsTest {
         promise13Tally();
         promise13DisapprovalNeedsATechnicalComment();
         promise13Carried();
+        promise13NearTheEdges();
         promise14Lacking();
         promise14NoWeightIsEnough();
         promise14IsTheLeastWeight();
@@ -207,6 +208,7 @@ public final class BallotsTest {
         x.open();
         x.comment(1, 10, Check.TECHNICAL, 1);
         x.vote(2, Check.ABSTAIN);
+        x.set(0, 40);
         Check.due("abstentions alone carry nothing", 0, x.tally(5));
         x.vote(0, Check.APPROVE);
         x.set(0, 80);
@@ -218,6 +220,11 @@ public final class BallotsTest {
         Check.due("two thirds are at least 66 percent", 1, x.tally(5));
         x.set(1, 67);
         Check.due("two thirds are less than 67 percent", 0, x.tally(5));
+        x.vote(2, Check.APPROVE);
+        x.set(1, 80);
+        Check.due("exactly the approval", 1, x.tally(5));
+        x.set(1, 81);
+        Check.due("below the approval", 0, x.tally(5));
         CommitteeBallots lapsed = Check.committee(1);
         lapsed.addClause(10, 100);
         lapsed.set(4, 1);
@@ -226,6 +233,30 @@ public final class BallotsTest {
         lapsed.open();
         lapsed.vote(0, Check.APPROVE);
         tallies(lapsed, "all are lapsed", 0, 0, 0, 0, 0, 0);
+    }
+
+    /** Weights great enough that one percent is told apart. */
+    private static void promise13NearTheEdges() {
+        CommitteeBallots x = Check.committee(9, 9, 9, 9, 9, 5, 9, 4);
+        x.addClause(10, 100);
+        x.open();
+        for (int member = 0; member < 6; member++) {
+            x.vote(member, Check.APPROVE);
+        }
+        x.set(0, 80);
+        Check.due("50 of 63 are less than 80 percent", 0, x.tally(5));
+        Check.due("one is lacking", 1, x.lacking());
+        x.set(0, 79);
+        Check.due("but not than 79", 1, x.tally(5));
+        x.vote(6, Check.DISAPPROVE);
+        x.vote(7, Check.DISAPPROVE);
+        x.comment(6, 10, Check.TECHNICAL, 1);
+        x.comment(7, 10, Check.TECHNICAL, 1);
+        x.set(1, 80);
+        Check.due("50 to 13 is less than 80 percent", 0, x.tally(5));
+        Check.due("two are lacking", 2, x.lacking());
+        x.set(1, 79);
+        Check.due("but not than 79", 1, x.tally(5));
     }
 
     private static void tallies(CommitteeBallots x, String about, int... due) {
@@ -280,6 +311,15 @@ public final class BallotsTest {
         Check.due("all are lapsed", Check.NOT_FOUND, x.lacking());
         x.vote(0, Check.APPROVE);
         Check.due("their votes do not help", Check.NOT_FOUND, x.lacking());
+        CommitteeBallots single = Check.committee(1, 1);
+        single.addClause(10, 100);
+        single.set(1, 100);
+        single.open();
+        single.vote(0, Check.APPROVE);
+        Check.due("a yes of weight 1 is enough", 0, single.lacking());
+        single.vote(0, Check.DISAPPROVE);
+        single.comment(0, 10, Check.TECHNICAL, 1);
+        Check.due("a no of weight 1 is too much", Check.NOT_FOUND, single.lacking());
         CommitteeBallots nobody = new CommitteeBallots();
         nobody.addClause(1, 1);
         nobody.open();

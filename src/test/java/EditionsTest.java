@@ -1,7 +1,8 @@
 /** Promises 20 to 22: the changes of editions, and undo. */
 public final class EditionsTest {
     // What the steps of promise22RestoresAll answer.
-    private static final int[] ANSWERS = {3, 3, 50, 0, 1, 1, 1, 2, 0, 2, 0, 2, 2, 1, 1, 1, 0, 0, 1, 0, 2, 1};
+    private static final int[] ANSWERS = {3, 3, 50, 0, 1, 1, 1, 2, 0, 2, 0, 2, 2, 1, 0, 1, 1, 0, 0, 1, 0, 2, 0, 1, 2, 0,
+        1, 0, 3};
 
     public static void main(String[] args) {
         promise20Changes();
@@ -12,6 +13,7 @@ public final class EditionsTest {
         promise22FourStates();
         promise22ErrorsAndAnswersLeaveNoState();
         promise22TextStays();
+        promise22OfAnOpening();
         promise22RestoresAll();
         Check.end("EditionsTest");
     }
@@ -212,23 +214,55 @@ public final class EditionsTest {
         Check.due("nor restored", 0, x.count(10));
     }
 
-    /** Takes back each step of a run that has every kind of change. */
+    /** The beginning of a ballot, its days and its edition are not told, but come back, too. */
+    private static void promise22OfAnOpening() {
+        CommitteeBallots x = Check.inBallot();
+        x.comment(0, 10, Check.TECHNICAL, 101);
+        Check.carry(x);
+        x.resolve(Check.ACCEPT, 0);
+        x.open();
+        x.undo();
+        Check.due("an appeal is possible again", 1, x.appeal(0, 0, 7));
+        Check.due("the value of the beginning of the first ballot", 100, x.value(10));
+        Check.due("the edition goes back", 1, x.count(2));
+        CommitteeBallots days = Check.inBallot();
+        days.pass(30);
+        days.open();
+        days.undo();
+        days.undo();
+        Check.due("the first ballot is open again", 30, days.count(11));
+        Check.due("a day less", 0, days.pass(29));
+        Check.due("and ends", 1, days.pass(1));
+    }
+
+    /** Takes back one to four steps of a run that has every kind of change, and makes them again. */
     private static void promise22RestoresAll() {
-        for (int step = 0; step < 22; step++) {
-            CommitteeBallots x = Check.committee(3, 2, 1);
-            x.addClause(20, 200);
-            x.addClause(10, 100);
-            x.set(4, 1);
-            for (int ahead = 0; ahead < step; ahead++) {
-                change(x, ahead);
+        String end = Facts.of(runTo(ANSWERS.length));
+        for (int step = 0; step < ANSWERS.length; step++) {
+            String before = Facts.of(runTo(step));
+            for (int undone = 1; undone <= 4 && step + undone <= ANSWERS.length; undone++) {
+                CommitteeBallots x = runTo(step + undone);
+                for (int left = 3; left > 3 - undone; left--) {
+                    Check.due("states left", left, x.undo());
+                }
+                Check.holds(undone + " undone to step " + step, before.equals(Facts.of(x)));
+                for (int again = step; again < ANSWERS.length; again++) {
+                    change(x, again);
+                }
+                Check.holds("the same end again", end.equals(Facts.of(x)));
             }
-            String before = Facts.of(x);
-            change(x, step);
-            Check.due("states at step " + step, 4, x.count(9));
-            Check.holds("changed by step " + step, !before.equals(Facts.of(x)) || step == 17);
-            x.undo();
-            Check.holds("undone at step " + step, before.equals(Facts.of(x)));
         }
+    }
+
+    private static CommitteeBallots runTo(int steps) {
+        CommitteeBallots x = Check.committee(3, 2, 1);
+        x.addClause(20, 200);
+        x.addClause(10, 100);
+        x.set(4, 1);
+        for (int step = 0; step < steps; step++) {
+            change(x, step);
+        }
+        return x;
     }
 
     private static void change(CommitteeBallots x, int step) {
@@ -251,14 +285,21 @@ public final class EditionsTest {
             case 11: return x.pass(3);
             case 12: return x.resolve(Check.ACCEPT, 0);
             case 13: return x.resolve(Check.MODIFY, 159);
-            case 14: return x.appeal(0, 2, 7);
-            case 15: return x.resolve(Check.MODIFY, 109);
-            case 16: return x.resolve(Check.REJECT, 0);
-            case 17: return x.appeal(2, 2, 4);
-            case 18: return x.appeal(1, 0, 3);
-            case 19: return x.resolve(Check.ACCEPT, 0);
-            case 20: return x.open();
-            default: return x.pass(30);
+            case 14: return x.pass(1);
+            case 15: return x.appeal(0, 2, 7);
+            case 16: return x.resolve(Check.MODIFY, 109);
+            case 17: return x.resolve(Check.REJECT, 0);
+            case 18: return x.appeal(2, 2, 4);
+            case 19: return x.appeal(1, 0, 3);
+            case 20: return x.resolve(Check.ACCEPT, 0);
+            case 21: return x.open();
+            case 22: return x.comment(1, 20, Check.EDITORIAL, 209);
+            case 23: return x.vote(1, Check.APPROVE);
+            case 24: return x.pass(31);
+            case 25: return x.resolve(Check.ACCEPT, 0);
+            case 26: return x.appeal(0, 1, 2);
+            case 27: return x.resolve(Check.MODIFY, 208);
+            default: return x.open();
         }
     }
 }

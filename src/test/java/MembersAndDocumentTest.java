@@ -90,13 +90,13 @@ public final class MembersAndDocumentTest {
             Check.due("clause far out of range", Check.INVALID, x.addClause(far, 5));
             Check.due("value far out of range", Check.INVALID, x.addClause(5, far));
         }
-        Check.due("clause 99", 1, x.addClause(99, 0));
-        Check.due("clause 1", 2, x.addClause(1, 9999));
+        Check.due("clause 99", 1, x.addClause(99, 9999));
+        Check.due("clause 1", 2, x.addClause(1, 0));
         Check.due("clause 1 again", Check.IMPOSSIBLE, x.addClause(1, 5));
         Check.due("range before possibility", Check.INVALID, x.addClause(1, 10000));
         Check.due("clause 50", 3, x.addClause(50, 5));
         int[] sorted = {1, 50, 99};
-        int[] values = {9999, 5, 0};
+        int[] values = {0, 5, 9999};
         for (int index = 0; index < 3; index++) {
             Check.due("in ascending order", sorted[index], x.clause(index));
             Check.due("its value", values[index], x.value(sorted[index]));
