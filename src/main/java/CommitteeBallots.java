@@ -88,7 +88,7 @@ public final class CommitteeBallots {
         if (now.members.size >= MAX_MEMBERS) {
             return LIMIT_REACHED;
         }
-        history.record(now);
+        history.keep(now);
         return now.members.append(weight);
     }
 
@@ -103,7 +103,7 @@ public final class CommitteeBallots {
         if (now.document.size >= MAX_CLAUSES) {
             return LIMIT_REACHED;
         }
-        history.record(now);
+        history.keep(now);
         now.document.insert(clause, value);
         return now.document.size;
     }
@@ -116,7 +116,7 @@ public final class CommitteeBallots {
         if (value < LEAST_SETTINGS[what] || value > GREATEST_SETTINGS[what]) {
             return INVALID_ARGUMENT;
         }
-        history.record(now);
+        history.keep(now);
         int previous = now.settings[what];
         now.settings[what] = value;
         return previous;
@@ -213,7 +213,7 @@ public final class CommitteeBallots {
         if (now.document.edition >= MAX_EDITIONS) {
             return LIMIT_REACHED;
         }
-        history.record(now);
+        history.keep(now);
         now.openBallot();
         return now.ballot.number;
     }
@@ -226,7 +226,7 @@ public final class CommitteeBallots {
         if (!now.ballot.isOpen) {
             return NOT_POSSIBLE;
         }
-        history.record(now);
+        history.keep(now);
         now.members.given[member] = vote;
         return now.members.voters();
     }
@@ -239,7 +239,7 @@ public final class CommitteeBallots {
         if (now.today + days > LAST_DAY) {
             return LIMIT_REACHED;
         }
-        history.record(now);
+        history.keep(now);
         now.today += days;
         if (!now.ballot.isOpen || now.today < now.ballot.lastDay) {
             return 0;
@@ -296,7 +296,7 @@ public final class CommitteeBallots {
         if (now.comments.size >= MAX_COMMENTS) {
             return LIMIT_REACHED;
         }
-        history.record(now);
+        history.keep(now);
         return now.comments.append(member, place, kind, value);
     }
 
@@ -347,7 +347,7 @@ public final class CommitteeBallots {
         if (decision != REJECT && !now.document.canGet(now.comments.place[comment], wanted)) {
             return NOT_POSSIBLE;
         }
-        history.record(now);
+        history.keep(now);
         now.settle(comment, decision, wanted);
         return now.comments.pending();
     }
@@ -366,7 +366,7 @@ public final class CommitteeBallots {
         if (now.today > now.comments.day[comment] + now.settings[APPEAL_DAYS]) {
             return NOT_POSSIBLE;
         }
-        history.record(now);
+        history.keep(now);
         if (2 * now.activeWeightIn(set) <= now.activeWeight()) {
             return 0;
         }
@@ -390,14 +390,13 @@ public final class CommitteeBallots {
         if (place == NONE) {
             return NOT_FOUND;
         }
-        int slot = Document.slot(edition, place);
         switch (what) {
             case 0:
                 return now.document.number[place];
             case 1:
-                return now.document.ballotBehind[slot];
+                return now.document.ballotBehind[edition - 1];
             default:
-                return now.document.commentBehind[slot];
+                return now.document.commentBehind[Document.slot(edition, place)];
         }
     }
 
@@ -451,7 +450,7 @@ public final class CommitteeBallots {
         if (!now.ballot.isOpen || firstFault() != NO_FAULT) {
             return NOT_POSSIBLE;
         }
-        history.record(now);
+        history.keep(now);
         int before = now.comments.size;
         text.rewind();
         for (int made = before; made < MAX_COMMENTS && text.readComment(); made++) {
@@ -566,9 +565,9 @@ public final class CommitteeBallots {
         final int[] number = new int[MAX_CLAUSES];
         final int[] present = new int[MAX_CLAUSES];
         final int[] atOpening = new int[MAX_CLAUSES];
-        // A row of all clauses for each edition, the first one at 0: see slot.
+        final int[] ballotBehind = new int[MAX_EDITIONS];
+        // A row of all clauses for each edition: see slot.
         final int[] inEdition = new int[MAX_EDITIONS * MAX_CLAUSES];
-        final int[] ballotBehind = new int[MAX_EDITIONS * MAX_CLAUSES];
         final int[] commentBehind = new int[MAX_EDITIONS * MAX_CLAUSES];
         int size;
         int edition = 1;
@@ -577,8 +576,8 @@ public final class CommitteeBallots {
             copyAll(other.number, number);
             copyAll(other.present, present);
             copyAll(other.atOpening, atOpening);
-            copyAll(other.inEdition, inEdition);
             copyAll(other.ballotBehind, ballotBehind);
+            copyAll(other.inEdition, inEdition);
             copyAll(other.commentBehind, commentBehind);
             size = other.size;
             edition = other.edition;
@@ -918,13 +917,13 @@ public final class CommitteeBallots {
             if (document.edition >= MAX_EDITIONS) {
                 return;
             }
+            document.ballotBehind[document.edition] = ballot.number;
             document.edition++;
             ballot.broughtEdition = true;
             for (int place = 0; place < document.size; place++) {
                 int slot = Document.slot(document.edition, place);
                 int value = document.present[place];
                 document.inEdition[slot] = value;
-                document.ballotBehind[slot] = ballot.number;
                 document.commentBehind[slot] = comments.firstBehind(place, value);
             }
         }
@@ -957,7 +956,7 @@ public final class CommitteeBallots {
         }
 
         /** Keeps a state, in the place of the oldest one if there is no other. */
-        void record(State state) {
+        void keep(State state) {
             states[(oldest + size) % MAX_STATES].copyFrom(state);
             if (size < MAX_STATES) {
                 size++;

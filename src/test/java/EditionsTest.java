@@ -14,6 +14,7 @@ public final class EditionsTest {
         promise22ErrorsAndAnswersLeaveNoState();
         promise22TextStays();
         promise22OfAnOpening();
+        promise22OfResolutions();
         promise22RestoresAll();
         Check.end("EditionsTest");
     }
@@ -233,6 +234,28 @@ public final class EditionsTest {
         Check.due("the first ballot is open again", 30, days.count(11));
         Check.due("a day less", 0, days.pass(29));
         Check.due("and ends", 1, days.pass(1));
+    }
+
+    /** Which of two resolutions came first comes back with them. */
+    private static void promise22OfResolutions() {
+        CommitteeBallots x = Check.inBallot();
+        x.comment(0, 10, Check.TECHNICAL, 101);
+        x.comment(0, 10, Check.TECHNICAL, 101);
+        Check.carry(x);
+        x.resolve(Check.ACCEPT, 0);
+        x.resolve(Check.ACCEPT, 0);
+        for (int turn = 0; turn < 2; turn++) {
+            x.appeal(0, 0, 7);
+            x.resolve(Check.ACCEPT, 0);
+            Check.due("the other came first", 1, x.change(2, 0, 2));
+        }
+        for (int left = 3; left >= 0; left--) {
+            Check.due("undone", left, x.undo());
+        }
+        Check.due("this one came first", 0, x.change(2, 0, 2));
+        x.appeal(1, 0, 7);
+        x.resolve(Check.ACCEPT, 0);
+        Check.due("as its resolution is the old one", 0, x.change(2, 0, 2));
     }
 
     /** Takes back one to four steps of a run that has every kind of change, and makes them again. */

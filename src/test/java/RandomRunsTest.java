@@ -13,12 +13,15 @@ public final class RandomRunsTest {
     private final int clauses;
     private final int values;
     private final boolean isTalkative;
+    private final boolean isLarge;
     private boolean isUndoing;
     private String call;
 
     private RandomRunsTest(int seed) {
-        random = new Random(seed);
-        clauses = 1 + random.nextInt(random.nextBoolean() ? 3 : 25);
+        // Neighbouring seeds would begin with nearly the same numbers.
+        random = new Random(seed * 0x9E3779B97F4A7C15L);
+        isLarge = random.nextInt(8) == 0;
+        clauses = isLarge ? 20 : 1 + random.nextInt(random.nextBoolean() ? 3 : 25);
         values = 2 + random.nextInt(4);
         isTalkative = random.nextInt(4) == 0;
     }
@@ -41,7 +44,7 @@ public final class RandomRunsTest {
     private boolean agrees(int seed) {
         for (int number = 0; number < CALLS; number++) {
             // A run sets up its committee first, so that ballots have members and clauses.
-            long answers = number < 12 ? setUp(number) : anyCall();
+            long answers = number < (isLarge ? 36 : 12) ? setUp(number) : anyCall();
             int got = (int) (answers >> 32);
             int want = (int) answers;
             Check.due("run " + seed + ", call " + number + ", " + call, want, got);
@@ -59,9 +62,12 @@ public final class RandomRunsTest {
     }
 
     private long setUp(int number) {
+        if (isLarge && number < 32) {
+            return number < 11 ? addMember(1 + random.nextInt(9)) : addClause(number - 10, random.nextInt(values));
+        }
         switch (number % 4) {
-            case 0: return addMember(1 + random.nextInt(9));
-            case 1: return addClause(1 + random.nextInt(clauses), random.nextInt(values));
+            case 0: return isLarge ? set(4, 5) : addMember(1 + random.nextInt(9));
+            case 1: return isLarge ? set(0, 15) : addClause(1 + random.nextInt(clauses), random.nextInt(values));
             case 2: return set(2, 1 + random.nextInt(6));
             default: return set(random.nextInt(2), 1 + random.nextInt(100));
         }
