@@ -917,8 +917,8 @@ public final class CommitteeBallots {
             if (document.edition >= MAX_EDITIONS) {
                 return;
             }
-            document.ballotBehind[document.edition] = ballot.number;
             document.edition++;
+            document.ballotBehind[document.edition - 1] = ballot.number;
             ballot.broughtEdition = true;
             for (int place = 0; place < document.size; place++) {
                 int slot = Document.slot(document.edition, place);
