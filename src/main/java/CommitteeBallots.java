@@ -197,7 +197,7 @@ public final class CommitteeBallots {
             case 10:
                 return text.length;
             case 11:
-                return now.ballot.isOpen ? now.ballot.lastDay - now.today : 0;
+                return now.ballot.isOpen ? now.ballot.endDay - now.today : 0;
             default:
                 return INVALID_ARGUMENT;
         }
@@ -241,7 +241,7 @@ public final class CommitteeBallots {
         }
         history.keep(now);
         now.today += days;
-        if (!now.ballot.isOpen || now.today < now.ballot.lastDay) {
+        if (!now.ballot.isOpen || now.today < now.ballot.endDay) {
             return 0;
         }
         now.endBallot();
@@ -668,14 +668,14 @@ public final class CommitteeBallots {
         boolean isOpen;
         boolean broughtEdition;
         int number;
-        int lastDay;
+        int endDay;
 
         void copyFrom(Ballot other) {
             copyAll(other.sums, sums);
             isOpen = other.isOpen;
             broughtEdition = other.broughtEdition;
             number = other.number;
-            lastDay = other.lastDay;
+            endDay = other.endDay;
         }
     }
 
@@ -851,7 +851,7 @@ public final class CommitteeBallots {
             ballot.isOpen = true;
             ballot.broughtEdition = false;
             ballot.number++;
-            ballot.lastDay = today + settings[BALLOT_DAYS];
+            ballot.endDay = today + settings[BALLOT_DAYS];
             comments.size = 0;
             comments.turns = 0;
             Arrays.fill(members.given, NO_VOTE);

@@ -1,8 +1,19 @@
-/** All that a committee tells of itself, but for its text and the size of its history. */
+/** All that a committee tells of itself. */
 final class Facts {
     private Facts() {
     }
 
+    /** With its text and the size of its history. */
+    static String all(CommitteeBallots x) {
+        StringBuilder facts = new StringBuilder(of(x));
+        tell(facts, x.count(9));
+        tell(facts, x.count(10));
+        tell(facts, x.fault(0));
+        tell(facts, x.fault(1));
+        return facts.toString();
+    }
+
+    /** Without them, as they do not come back by undo. */
     static String of(CommitteeBallots x) {
         StringBuilder facts = new StringBuilder();
         for (int what = 0; what <= 24; what++) {
