@@ -289,6 +289,14 @@ final class TermsOfComments {
         Check.carry(x);
         x.resolve(Check.ACCEPT, 0);
         Check.due("other than in edition 2, though that of edition 1", 3, x.count(2));
+        for (int decision = 0; decision <= 2; decision++) {
+            CommitteeBallots full = Check.twentyClauses();
+            full.open();
+            full.comment(0, 20, Check.TECHNICAL, 5);
+            Check.carry(full);
+            full.resolve(decision, 0);
+            Check.due("of twenty clauses the last one alone", decision == Check.ACCEPT ? 2 : 1, full.count(2));
+        }
     }
 
     private static void changesAreToldByClause() {
