@@ -1,6 +1,8 @@
 import java.io.IOException;
+import java.lang.reflect.Modifier;
 import java.nio.file.Files;
 import java.nio.file.Path;
+import java.util.Arrays;
 import java.util.regex.Matcher;
 import java.util.regex.Pattern;
 
@@ -22,6 +24,7 @@ public final class LanguageTest {
         imports(code);
         statics(code);
         methods(code);
+        fields(CommitteeBallots.class);
         Check.holds("at most twelve classes", count("\\b(class|record|enum|interface) ", code) <= 12);
         Check.end("LanguageTest");
     }
@@ -46,8 +49,21 @@ public final class LanguageTest {
             String about = method.group().lines().findFirst().orElse("").trim();
             Check.holds("short: " + about, method.group(3).lines().count() <= 60);
             Check.holds("few parameters: " + about, method.group(2).split(",").length <= 7);
+            // A constructor has no type ahead of its name; what it makes is used again by every call.
+            boolean isConstructor = about.matches("(public )?\\w+\\(.*");
+            Check.holds("makes no object: " + about, isConstructor || count("\\bnew\\b", method.group(3)) == 0);
         }
         Check.holds("the methods are found", found > 50);
+    }
+
+    /** A class has some twenty fields beside its constants. */
+    private static void fields(Class<?> holder) {
+        long fields = Arrays.stream(holder.getDeclaredFields())
+                .filter(field -> !Modifier.isStatic(field.getModifiers())).count();
+        Check.holds(holder + " has " + fields + " fields", fields > 0 && fields <= 20);
+        for (Class<?> inside : holder.getDeclaredClasses()) {
+            fields(inside);
+        }
     }
 
     private static int count(String pattern, String text) {
