@@ -44,7 +44,9 @@ public final class ReadmeTest {
             if (call.matches()) {
                 int answer = answer(x, call.group(2), call.group(3), names);
                 Check.due(line, Integer.parseInt(call.group(4)), answer);
-                names.put(String.valueOf(call.group(1)), answer);
+                if (call.group(1) != null) {
+                    names.put(call.group(1), answer);
+                }
             }
         }
     }
